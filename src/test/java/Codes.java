@@ -1,23 +1,43 @@
+import java.util.Arrays;
+
 /**
- * The two codes by the document's own words and by trying everything out: slow, and built on
- * nothing of the class that is tested.
+ * The two codes by the document's own words, with tables that are filled by trying every error:
+ * built on nothing of the class that is tested.
  */
 final class Codes {
+    private static final long[] UP_ERRORS = upErrors();
+    private static final int[] DOWN_CHECKS = downChecks();
+    private static final long[] DOWN_ERRORS = downErrors();
+
     private Codes() {
     }
 
-    /** Whether a polynomial over 0 and 1 is divisible by x^7 + x^6 + x^2 + 1. */
-    static boolean isUpBlock(long block) {
-        long rest = block ^ 127;
+    static long encode(boolean up, long info) {
+        return up ? info << 7 | upRest(info << 7) ^ 127 : info << 16 | DOWN_CHECKS[downValues(info << 16)];
+    }
+
+    /** -1 for a spoilt block. */
+    static long decode(boolean up, long block) {
+        long errors = up ? UP_ERRORS[upRest(block ^ 127)] : DOWN_ERRORS[downValues(block)];
+        return errors < 0 ? -1 : (block ^ errors) >>> (up ? 7 : 16);
+    }
+
+    static boolean isBlock(boolean up, long block) {
+        return up ? upRest(block ^ 127) == 0 : downValues(block) == 0;
+    }
+
+    /** What is left of a polynomial over 0 and 1 when it is divided by x^7 + x^6 + x^2 + 1. */
+    private static int upRest(long polynomial) {
+        long rest = polynomial;
         for (int k = 62; k >= 7; k--) {
             if ((rest >>> k & 1) == 1) {
                 rest ^= 0b11000101L << (k - 7);
             }
         }
-        return rest == 0;
+        return (int) rest;
     }
 
-    static int product(int s, int r) {
+    private static int product(int s, int r) {
         int product = 0;
         for (int j = 0; j < 4; j++) {
             if ((r >>> j & 1) == 1) {
@@ -32,95 +52,50 @@ final class Codes {
         return product;
     }
 
-    private static int valueAt(long block, int point) {
-        int value = 0;
-        for (int k = 14; k >= 0; k--) {
-            value = product(value, point) ^ (int) (block >>> 4 * k & 15);
-        }
-        return value;
-    }
-
-    static boolean isDownBlock(long block) {
+    /** The values of a down block at a, a^2, a^3 and a^4, four bits each. */
+    private static int downValues(long block) {
+        int values = 0;
         int point = 1;
-        for (int j = 1; j <= 4; j++) {
-            point = product(point, 2);
-            if (valueAt(block, point) != 0) {
-                return false;
-            }
-        }
-        return true;
-    }
-
-    static boolean isBlock(boolean up, long block) {
-        return up ? isUpBlock(block) : isDownBlock(block);
-    }
-
-    static long infoOf(boolean up, long block) {
-        return up ? block >>> 7 : block >>> 16;
-    }
-
-    /** The check bits are found by trying, with what the linear code leaves of the work. */
-    static long encodeUp(long info) {
-        for (long check = 0; check < 128; check++) {
-            if (isUpBlock(info << 7 | check)) {
-                return info << 7 | check;
-            }
-        }
-        return -1;
-    }
-
-    static long encodeDown(long info) {
-        int[] want = new int[4];
         for (int j = 0; j < 4; j++) {
-            want[j] = valueAt(info << 16, power(j + 1));
-        }
-        for (int check = 0; check < 65536; check++) {
-            boolean fits = true;
-            for (int j = 0; j < 4 && fits; j++) {
-                fits = valueAt(check, power(j + 1)) == want[j];
+            point = product(point, 2);
+            int value = 0;
+            for (int k = 14; k >= 0; k--) {
+                value = product(value, point) ^ (int) (block >>> 4 * k & 15);
             }
-            if (fits) {
-                return info << 16 | check;
-            }
+            values |= value << 4 * j;
         }
-        return -1;
+        return values;
     }
 
-    private static int power(int k) {
-        int power = 1;
-        for (int i = 0; i < k; i++) {
-            power = product(power, 2);
-        }
-        return power;
-    }
-
-    static long decode(boolean up, long block) {
-        if (isBlock(up, block)) {
-            return infoOf(up, block);
-        }
-        return up ? decodeNearUp(block) : decodeNearDown(block);
-    }
-
-    private static long decodeNearUp(long block) {
+    private static long[] upErrors() {
+        long[] errors = new long[128];
+        Arrays.fill(errors, -1);
+        errors[0] = 0;
         for (int k = 0; k < 63; k++) {
-            if (isUpBlock(block ^ 1L << k)) {
-                return (block ^ 1L << k) >>> 7;
-            }
+            errors[upRest(1L << k)] = 1L << k;
         }
-        return -1;
+        return errors;
     }
 
-    private static long decodeNearDown(long block) {
+    private static int[] downChecks() {
+        int[] checks = new int[65536];
+        for (int check = 0; check < 65536; check++) {
+            checks[downValues(check)] = check;
+        }
+        return checks;
+    }
+
+    private static long[] downErrors() {
+        long[] errors = new long[65536];
+        Arrays.fill(errors, -1);
         for (int i = 0; i < 15; i++) {
             for (int j = i + 1; j < 15; j++) {
-                for (long errors = 0; errors < 256; errors++) {
-                    long near = block ^ (errors & 15) << 4 * i ^ (errors >>> 4) << 4 * j;
-                    if (isDownBlock(near)) {
-                        return near >>> 16;
-                    }
+                for (long both = 0; both < 256; both++) {
+                    long error = (both & 15) << 4 * i | (both >>> 4) << 4 * j;
+                    errors[downValues(error)] = error;
                 }
             }
         }
-        return -1;
+        return errors;
     }
 }

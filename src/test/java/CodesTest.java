@@ -10,10 +10,10 @@ public final class CodesTest {
             long info = i == 0 ? 0 : i == 1 ? -1L : i < 66 ? 1L << (i - 2) : RANDOM.nextLong();
             long upBlock = LINK.encode(true, info);
             Check.due("encode up: info", upBlock >>> 7, info & (1L << 56) - 1);
-            Check.due("encode up: divisible", Codes.isUpBlock(upBlock), true);
+            Check.due("encode up: divisible", Codes.isBlock(true, upBlock), true);
             long downBlock = LINK.encode(false, info);
             Check.due("encode down: info", downBlock >>> 16, info & (1L << 44) - 1);
-            Check.due("encode down: zeros", Codes.isDownBlock(downBlock), true);
+            Check.due("encode down: zeros", Codes.isBlock(false, downBlock), true);
         }
     }
 
