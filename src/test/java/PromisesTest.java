@@ -184,6 +184,24 @@ public final class PromisesTest {
         due("4 no record", x.outcome(true, 0), -1);
     }
 
+    /** What CANCEL does not use is 0: seen when it is turned into another kind on the way. */
+    private static void cancelIsEmpty4() {
+        FarLink x = filled(1);
+        x.put(0, 16, 3, true);
+        x.cancel(0);
+        forge(x, true, 6L << 44);
+        x.run(2);
+        due("4 CANCEL turned into DATA, position 0", x.missing(0), 0x3FFFE);
+        due("4 CANCEL turned into DATA, word 0", x.taken(0, 0), 0);
+        FarLink y = filled(1);
+        y.put(0, 0, 3, true);
+        y.run(1);
+        y.cancel(0);
+        forge(y, true, 7L << 44);
+        y.run(2);
+        due("4 CANCEL turned into EOF, position 0 and word 0", y.outcome(true, 0), 1);
+    }
+
     private static void suspend5() {
         FarLink x = filled(1);
         due("5 none", x.suspend(0, true), false);
@@ -665,6 +683,7 @@ public final class PromisesTest {
         put3();
         cancel4();
         cancelWithoutAnswer4();
+        cancelIsEmpty4();
         suspend5();
         suspendedClocks5();
         suspendedMarked5();
