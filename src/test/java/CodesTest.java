@@ -1,102 +1,187 @@
 import java.util.Random;
 
-/** Promises 19 and 20: both codes, with every error that they mend and many that they don't. */
+/**
+ * Promises 19 and 20 and what "Terms" says of the blocks: every error that the codes mend and many
+ * that they don't, and the boundary cases, each sentence by a test of its own.
+ */
 public final class CodesTest {
-    private static final FarLink LINK = new FarLink(1);
+    private static final int MOST_CALLS = 512;
     private static final Random RANDOM = new Random(19);
+    private static FarLink link = new FarLink(1);
+    private static int calls = 0;
 
-    private static void encodesTheDocumentsBlocks() {
-        for (int i = 0; i < 20000; i++) {
-            long info = i == 0 ? 0 : i == 1 ? -1L : i < 66 ? 1L << (i - 2) : RANDOM.nextLong();
-            long upBlock = LINK.encode(true, info);
-            Check.due("encode up: info", upBlock >>> 7, info & (1L << 56) - 1);
-            Check.due("encode up: divisible", Codes.isBlock(true, upBlock), true);
-            long downBlock = LINK.encode(false, info);
-            Check.due("encode down: info", downBlock >>> 16, info & (1L << 44) - 1);
-            Check.due("encode down: zeros", Codes.isBlock(false, downBlock), true);
+    /** An object is used for at most 512 calls. */
+    private static FarLink link() {
+        if (calls == MOST_CALLS) {
+            link = new FarLink(1);
+            calls = 0;
         }
+        calls++;
+        return link;
     }
 
-    private static void answersKnownBlocks() {
-        // 7 check bits of the info 0 are all inverted zeros; x^7 leaves x^6 + x^2 + 1.
-        Check.due("encode(true, 0)", LINK.encode(true, 0), 127);
-        Check.due("encode(true, 1)", LINK.encode(true, 1), 128 | 0b0111010);
-        Check.due("encode(false, 0)", LINK.encode(false, 0), 0);
+    private static long encode(boolean up, long info) {
+        return link().encode(up, info);
+    }
+
+    private static long decode(boolean up, long block) {
+        return link().decode(up, block);
+    }
+
+    private static long infoBits(boolean up) {
+        return (1L << (up ? 56 : 44)) - 1;
+    }
+
+    private static long randomInfo(boolean up) {
+        return RANDOM.nextLong() & infoBits(up);
+    }
+
+    private static void encodesUp() {
+        Check.sentence("a block whose 7 check bits are all inverted is divisible by x^7 + x^6 + x^2 + 1");
+        for (int i = 0; i < 20000; i++) {
+            long info = i == 0 ? 0 : i == 1 ? infoBits(true) : i < 58 ? 1L << (i - 2) : randomInfo(true);
+            long block = encode(true, info);
+            Check.due("the info times 128", block >>> 7, info);
+            Check.due("divisible", Codes.isBlock(true, block), true);
+        }
+        // The 7 check bits of the info 0 are inverted zeros; x^7 leaves x^6 + x^2 + 1.
+        Check.due("encode(true, 0)", encode(true, 0), 127);
+        Check.due("encode(true, 1)", encode(true, 1), 128 | 0b0111010);
+    }
+
+    private static void encodesDown() {
+        Check.sentence("The polynomial whose factor of x^k is symbol k is 0 at a, a^2, a^3 and a^4");
+        for (int i = 0; i < 20000; i++) {
+            long info = i == 0 ? 0 : i == 1 ? infoBits(false) : i < 46 ? 1L << (i - 2) : randomInfo(false);
+            long block = encode(false, info);
+            Check.due("the symbols 4 .. 14", block >>> 16, info);
+            Check.due("zeros", Codes.isBlock(false, block), true);
+        }
+        Check.due("encode(false, 0)", encode(false, 0), 0);
         // The generator itself: its factors are 7, 8, 12, 13, 1.
-        Check.due("encode(false, 1)", LINK.encode(false, 1), 0x1DC87);
-        Check.due("decode(true, 127)", LINK.decode(true, 127), 0);
-        Check.due("decode(true, 124)", LINK.decode(true, 124), -1);
-        Check.due("decode(true, 126)", LINK.decode(true, 126), 0);
-        Check.due("decode(false, 0x1DC87)", LINK.decode(false, 0x1DC87), 1);
-        Check.due("decode(false, 0xFF)", LINK.decode(false, 0xFF), 0);
-        Check.due("decode(false, 0x112)", LINK.decode(false, 0x112), -1);
+        Check.due("encode(false, 1)", encode(false, 1), 0x1DC87);
     }
 
-    private static void looksAtTheLowestBitsAlone() {
-        for (int i = 0; i < 200; i++) {
-            long info = RANDOM.nextLong() >>> 20;
-            Check.due("info up, high bits", LINK.encode(true, info | 0xFFL << 56), LINK.encode(true, info));
-            Check.due("info down, high bits",
-                LINK.encode(false, info | 0xFFFFFL << 44), LINK.encode(false, info));
-            Check.due("block up, bit 63", LINK.decode(true, LINK.encode(true, info) | 1L << 63), info);
-            for (int k = 60; k < 64; k++) {
-                Check.due("block down, high bit", LINK.decode(false, LINK.encode(false, info) | 1L << k), info);
+    private static void infoAbove() {
+        Check.sentence("the lowest 56 or 44 bits of an info (are looked at)");
+        for (int i = 0; i < 50; i++) {
+            for (boolean up : new boolean[] {true, false}) {
+                int bits = up ? 56 : 44;
+                long info = i == 0 ? 0 : i == 1 ? infoBits(up) : randomInfo(up);
+                long block = encode(up, info);
+                for (int k = bits; k < 64; k++) {
+                    Check.due("bit " + k + " is not", encode(up, info ^ 1L << k), block);
+                }
+                Check.due("none above is", encode(up, info | -1L << bits), block);
+                Check.due("bit " + (bits - 1) + " is", encode(up, info ^ 1L << (bits - 1)) != block, true);
+            }
+        }
+        Check.due("encode(true, -1)", encode(true, -1), encode(true, infoBits(true)));
+        Check.due("encode(false, -1)", encode(false, -1), encode(false, infoBits(false)));
+        Check.due("encode(true, the least long)", encode(true, Long.MIN_VALUE), encode(true, 0));
+        Check.due("encode(false, the least long)", encode(false, Long.MIN_VALUE), 0);
+    }
+
+    private static void blockAbove() {
+        Check.sentence("Of longs the lowest 63 bits (up) or 60 bits (down) of a block are looked at");
+        for (int i = 0; i < 50; i++) {
+            for (boolean up : new boolean[] {true, false}) {
+                int bits = up ? 63 : 60;
+                long info = i == 0 ? 0 : i == 1 ? infoBits(up) : randomInfo(up);
+                long block = encode(up, info);
+                for (int k = bits; k < 64; k++) {
+                    Check.due("bit " + k + " is not", decode(up, block ^ 1L << k), info);
+                }
+                Check.due("none above is", decode(up, block | -1L << bits), info);
+                long turned = block ^ 1L << (bits - 1);
+                Check.due("the last bit is mended", decode(up, turned | -1L << bits), info);
+                long spoilt = up ? turned ^ 1 : block ^ 0x112;
+                Check.due("SPOILT stays SPOILT", decode(up, spoilt | -1L << bits), -1);
             }
         }
     }
 
-    private static void mendsOneBitUp() {
+    private static void oneBitUp() {
+        Check.sentence("DECODING answers the info of the code block that differs in at most one bit");
         for (int i = 0; i < 50; i++) {
-            long info = i == 0 ? 0 : i == 1 ? (1L << 56) - 1 : RANDOM.nextLong() >>> 8;
-            long block = LINK.encode(true, info);
-            Check.due("decode up", LINK.decode(true, block), info);
+            long info = i == 0 ? 0 : i == 1 ? infoBits(true) : randomInfo(true);
+            long block = encode(true, info);
+            Check.due("no bit", decode(true, block), info);
             for (int k = 0; k < 63; k++) {
-                Check.due("decode up, bit " + k, LINK.decode(true, block ^ 1L << k), info);
+                Check.due("bit " + k, decode(true, block ^ 1L << k), info);
+            }
+        }
+    }
+
+    private static void twoBitsUp() {
+        Check.sentence("if there is none, the block is SPOILT (up): -1 when it is SPOILT");
+        for (int i = 0; i < 50; i++) {
+            long info = i == 0 ? 0 : i == 1 ? infoBits(true) : randomInfo(true);
+            long block = encode(true, info);
+            for (int k = 0; k < 63; k++) {
                 for (int j = 0; j < k; j++) {
-                    Check.due("decode up, two bits", LINK.decode(true, block ^ 1L << k ^ 1L << j), -1);
+                    Check.due("bits " + j + ", " + k, decode(true, block ^ 1L << k ^ 1L << j), -1);
                 }
             }
         }
+        Check.due("decode(true, 124)", decode(true, 124), -1);
+        Check.due("decode(true, 0)", decode(true, 0), Codes.decode(true, 0));
+        Check.due("decode(true, all bits)", decode(true, -1L), Codes.decode(true, -1L >>> 1));
     }
 
-    private static void mendsTwoSymbolsDown() {
+    private static void twoSymbolsDown() {
+        Check.sentence("DECODING answers the info of the code block that differs in at most two symbols");
         for (int n = 0; n < 4; n++) {
-            long info = n == 0 ? 0 : n == 1 ? (1L << 44) - 1 : RANDOM.nextLong() >>> 20;
-            long block = LINK.encode(false, info);
-            Check.due("decode down", LINK.decode(false, block), info);
+            long info = n == 0 ? 0 : n == 1 ? infoBits(false) : randomInfo(false);
+            long block = encode(false, info);
+            Check.due("no symbol", decode(false, block), info);
             for (int i = 0; i < 15; i++) {
                 for (int j = i + 1; j < 15; j++) {
                     for (long errors = 0; errors < 256; errors++) {
                         long turned = block ^ (errors & 15) << 4 * i ^ (errors >>> 4) << 4 * j;
-                        Check.due("decode down, symbols " + i + ", " + j, LINK.decode(false, turned), info);
+                        Check.due("symbols " + i + ", " + j, decode(false, turned), info);
                     }
                 }
             }
         }
     }
 
+    private static void threeSymbolsDown() {
+        Check.sentence("if there is none, the block is SPOILT (down): -1 when it is SPOILT");
+        Check.due("decode(false, 0x112)", decode(false, 0x112), -1);
+        Check.due("decode(false, all bits)", decode(false, -1L), Codes.decode(false, -1L >>> 4));
+        for (int i = 0; i < 3000; i++) {
+            long info = randomInfo(false);
+            long block = encode(false, info);
+            int[] places = RANDOM.ints(0, 15).distinct().limit(3).toArray();
+            for (int place : places) {
+                block ^= (long) (1 + RANDOM.nextInt(15)) << 4 * place;
+            }
+            long answer = decode(false, block);
+            Check.due("three symbols of " + block, answer, Codes.decode(false, block));
+            Check.due("never the info that it was", answer == info, false);
+        }
+    }
+
     private static void answersAsTryingEverything() {
+        Check.sentence("(For both codes there is never more than one.)");
         for (int i = 0; i < 4000; i++) {
             long block = RANDOM.nextLong() >>> 1;
-            Check.due("decode up " + block, LINK.decode(true, block), Codes.decode(true, block));
-        }
-        for (int i = 0; i < 600; i++) {
-            long block = RANDOM.nextLong() >>> 4;
-            Check.due("decode down " + block, LINK.decode(false, block), Codes.decode(false, block));
-            long three = LINK.encode(false, block);
-            for (int n = 0; n < 3; n++) {
-                three ^= (long) (1 + RANDOM.nextInt(15)) << 4 * RANDOM.nextInt(15);
-            }
-            Check.due("decode down " + three, LINK.decode(false, three), Codes.decode(false, three));
+            Check.due("decode up " + block, decode(true, block), Codes.decode(true, block));
+            block >>>= 3;
+            Check.due("decode down " + block, decode(false, block), Codes.decode(false, block));
         }
     }
 
     public static void main(String[] args) {
-        encodesTheDocumentsBlocks();
-        answersKnownBlocks();
-        looksAtTheLowestBitsAlone();
-        mendsOneBitUp();
-        mendsTwoSymbolsDown();
+        encodesUp();
+        encodesDown();
+        infoAbove();
+        blockAbove();
+        oneBitUp();
+        twoBitsUp();
+        twoSymbolsDown();
+        threeSymbolsDown();
         answersAsTryingEverything();
         Check.end();
     }

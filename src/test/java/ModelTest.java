@@ -6,21 +6,28 @@ import java.util.Random;
  * that the runs come to frames and PDUs that neither side would send.
  */
 public final class ModelTest {
-    private static final int RUNS = 1500;
-    private static final int CALLS = 512;
+    private static final int RUNS = 6000;
+
+    /** An object is used for at most 512 calls, those that only ask included. */
+    private static final int MOST_CALLS = 512;
+
+    /** What compareAll asks. */
+    private static final int CALLS_AT_THE_END = 202;
 
     private static FarLink link;
     private static Model model;
     private static Random random;
     private static int style;
+    private static int calls;
     private static String where;
 
     private static void due(String call, long got, long want) {
+        calls++;
         Check.due(where + call, got, want);
     }
 
     private static void due(String call, boolean got, boolean want) {
-        Check.due(where + call, got, want);
+        due(call, got ? 1L : 0L, want ? 1L : 0L);
     }
 
     private static boolean chance(int percent) {
@@ -115,6 +122,7 @@ public final class ModelTest {
         }
         link.noise(up, mask);
         model.noise(up, mask);
+        calls++;
     }
 
     private static void outage() {
@@ -147,6 +155,26 @@ public final class ModelTest {
         }
     }
 
+    private static void compareOne() {
+        int t = number(15);
+        int k = number(15);
+        switch (random.nextInt(13)) {
+            case 0: due("time", link.time(), model.time()); break;
+            case 1: due("report", link.report(), model.report()); break;
+            case 2: due("window", link.window(), model.window()); break;
+            case 3: due("alerts", link.alerts(), model.alerts()); break;
+            case 4: due("sent up", link.sent(true), model.sent(true)); break;
+            case 5: due("sent down", link.sent(false), model.sent(false)); break;
+            case 6: due("faults up", link.faults(true), model.faults(true)); break;
+            case 7: due("faults down", link.faults(false), model.faults(false)); break;
+            case 8: due("outcome at the ground", link.outcome(false, t), model.outcome(false, t)); break;
+            case 9: due("outcome at the craft", link.outcome(true, t), model.outcome(true, t)); break;
+            case 10: due("missing", link.missing(t), model.missing(t)); break;
+            case 11: due("taken", link.taken(t, k), model.taken(t, k)); break;
+            default: due("stored", link.stored(t & 3, k - 1), model.stored(t & 3, k - 1)); break;
+        }
+    }
+
     private static void compareLink() {
         due("time", link.time(), model.time());
         due("report", link.report(), model.report());
@@ -158,7 +186,8 @@ public final class ModelTest {
         due("faults down", link.faults(false), model.faults(false));
     }
 
-    private static void compareFiles() {
+    private static void compareAll() {
+        compareLink();
         for (int t = -1; t <= 16; t++) {
             due("outcome at the ground", link.outcome(false, t), model.outcome(false, t));
             due("outcome at the craft", link.outcome(true, t), model.outcome(true, t));
@@ -202,21 +231,29 @@ public final class ModelTest {
         "whole by kind 1", "whole by kind 2", "whole by kind 3"
     };
 
+    private static void oneRun(int seed) {
+        random = new Random(seed);
+        style = random.nextInt(4);
+        int delay = chance(5) ? random.nextInt() : 1 + random.nextInt(5);
+        int asking = random.nextInt(3);
+        link = new FarLink(delay);
+        model = new Model(delay);
+        calls = 0;
+        // A round asks twice at most.
+        while (calls + 3 + CALLS_AT_THE_END <= MOST_CALLS && Check.wrong() == 0) {
+            where = "seed " + seed + ", call " + (calls + 1) + ": ";
+            oneCall();
+            for (int i = 0; i < asking; i++) {
+                compareOne();
+            }
+        }
+        compareAll();
+    }
+
     public static void main(String[] args) {
         for (int seed = 0; seed < RUNS && Check.wrong() == 0; seed++) {
-            random = new Random(seed);
-            style = random.nextInt(4);
-            int delay = chance(5) ? random.nextInt() : 1 + random.nextInt(5);
-            link = new FarLink(delay);
-            model = new Model(delay);
-            for (int i = 1; i <= CALLS && Check.wrong() == 0; i++) {
-                where = "seed " + seed + ", call " + i + ": ";
-                oneCall();
-                compareLink();
-                if (chance(25)) {
-                    compareFiles();
-                }
-            }
+            oneRun(seed);
+            Check.due("calls of an object, at most " + MOST_CALLS, calls <= MOST_CALLS, true);
         }
         if (args.length > 0) {
             Model.SEEN.forEach(System.out::println);

@@ -8,6 +8,9 @@ public final class RoomTest {
     /** Far below one object a tick, above what the measuring itself makes. */
     private static final int MOST_BYTES_OF_ALL_CALLS = 65536;
 
+    /** Of 7 calls each, after 16 puts: below the 512 calls of an object. */
+    private static final int ROUNDS = 70;
+
     private static final ThreadMXBean THREADS = (ThreadMXBean) ManagementFactory.getThreadMXBean();
 
     private static long made() {
@@ -38,7 +41,7 @@ public final class RoomTest {
         long ofAnObject = made() - before;
         Check.due("bytes of an object: " + ofAnObject, ofAnObject <= MOST_BYTES_OF_AN_OBJECT, true);
         before = made();
-        for (int i = 0; i < 496; i++) {
+        for (int i = 0; i < ROUNDS; i++) {
             disturb(x, i);
             x.run(100);
         }
