@@ -348,6 +348,27 @@ public final class CallsEdgesTest {
         Check.due("bits 0 and 1 twice, bit 2 once: mended", y.faults(true), 65536);
     }
 
+    private static void noiseOfAllBits() {
+        Check.sentence("noise: .. that are 1 in the mask (all bits of a block)");
+        long metadata = Codes.encode(true, Infos.past(Infos.METADATA, 0, 0, 0));
+        for (long block : new long[] {0, -1L >>> 1}) {
+            FarLink x = new FarLink(1);
+            x.put(0, 0, 0, true);
+            x.noise(true, metadata ^ block);
+            x.noise(true, Long.MIN_VALUE);
+            x.run(2);
+            boolean spoilt = Codes.decode(true, block) < 0;
+            Check.due("up, block " + block, x.faults(true), spoilt ? 1 : Codes.isBlock(true, block) ? 0 : 65536);
+        }
+        // 15 times the same symbol is a code block: EXPECTED 15, LOCKED and AGAIN.
+        FarLink y = new FarLink(1);
+        y.noise(false, -1L);
+        y.run(2);
+        Check.due("down, all bits, faults", y.faults(false), 0);
+        Check.due("down, all bits, alerts()", y.alerts(), 1);
+        Check.due("down, all bits, window()", y.window(), 1);
+    }
+
     private static void noiseOfTheNextAlone() {
         Check.sentence("noise: Turns the bits of the next block sent up, or down");
         FarLink x = new FarLink(1);
@@ -663,6 +684,21 @@ public final class CallsEdgesTest {
         }
     }
 
+    private static void storedShorter() {
+        Check.sentence("stored: 0 when there is no such word (of a file that was longer before)");
+        FarLink x = filled(1);
+        x.put(0, 16, 1, true);
+        x.run(30);
+        for (int length : new int[] {15, 1, 0}) {
+            x.put(0, length, 1, true);
+            x.run(30);
+            Check.due("length", x.stored(1, -1), length);
+            for (int k = 0; k < 16; k++) {
+                Check.due("length " + length + ", k " + k, x.stored(1, k), k < length ? 10 * (k + 1) : 0);
+            }
+        }
+    }
+
     // Promises 17 and 18.
 
     private static void sentInAnOutage() {
@@ -726,6 +762,7 @@ public final class CallsEdgesTest {
         suspendEnded();
         suspendSoAlready();
         noiseTwice();
+        noiseOfAllBits();
         noiseOfTheNextAlone();
         noiseInAnOutage();
         noiseAboveABlock();
@@ -739,6 +776,7 @@ public final class CallsEdgesTest {
         takenEdges();
         missingEdges();
         storedEdges();
+        storedShorter();
         sentInAnOutage();
         faultsOfWhatIsHeard();
         Check.end();

@@ -159,9 +159,28 @@ public final class ClocksEdgesTest {
         LoneCraft m = new LoneCraft(d).hears(up(Infos.EOF, 2, 7)).hearsIn(9 * span(d) + 2, up(Infos.METADATA, 2, 0));
         m.pass(three - 3);
         outcome("METADATA, the clock runs out with TRIES 1", m, OPEN);
-        m.pass(3 * three);
+        m.pass(3 * three - 1);
+        outcome("METADATA, not yet", m, OPEN);
+        m.pass(1);
         outcome("METADATA, at the limit", m, 3);
         LoneCraft.sendsAfter("DATA leaves the clock", () -> stirred(d, up(Infos.DATA, 0, 0)), three - 4, lack(2));
+    }
+
+    private static void craftTriesAfterEof(int d) {
+        Check.sentence("When it is EOF that was taken just now, and the record is not WHOLE, .. its clock is set to 3T, "
+            + "TRIES is 1.");
+        int three = 3 * span(d);
+        LoneCraft made = new LoneCraft(d).hears(up(Infos.EOF, 2, 7)).hearsIn(9 * span(d) + 2, up(Infos.DONE, 0, 0));
+        made.pass(three - 4);
+        outcome("a record that EOF made, not yet", made, OPEN);
+        made.pass(1);
+        outcome("a record that EOF made", made, 3);
+        LoneCraft late = new LoneCraft(d).hears(up(Infos.DATA, 0, 1)).hearsIn(2 * three + 5, up(Infos.EOF, 2, 7));
+        late.hearsIn(9 * span(d) + 2, up(Infos.DONE, 0, 0));
+        late.pass(three - 4);
+        outcome("EOF long after DATA, not yet", late, OPEN);
+        late.pass(1);
+        outcome("EOF long after DATA", late, 3);
     }
 
     private static void craftFinished(int d) {
@@ -302,6 +321,35 @@ public final class ClocksEdgesTest {
         Check.due("CANCEL was not sent, outcome", c.link.outcome(false, 0), UNDER_WAY);
     }
 
+    /**
+     * With a delay of 1: EOF of transaction 1 goes in tick 2, so that its clock would run out in tick 26;
+     * it is cancelled, but transaction 0 has something due up to tick 29.
+     */
+    private static LoneGround cancelThatWaits() {
+        LoneGround g = new LoneGround(1);
+        g.link.put(0, 16, 0, true);
+        suspended(g, true);
+        g.link.put(0, 0, 0, true);
+        g.pass(2);
+        g.link.cancel(1);
+        suspended(g, false).pass(8);
+        g.hears(Infos.down(0, Infos.LACK, 0, 0x1FFFF));
+        g.pass(17);
+        return g;
+    }
+
+    private static void groundClockWaitsForCancel() {
+        Check.sentence("if EOF or CANCEL was sent since it was made due last (CANCEL after EOF)");
+        LoneGround.sends("CANCEL in tick 30", ClocksEdgesTest::cancelThatWaits, Infos.past(Infos.CANCEL, 1, 0, 0), NONE);
+        LoneGround g = cancelThatWaits();
+        // It goes in the ticks 30, 54, 78 and 102.
+        g.pass(125 - 29);
+        Check.due("time()", g.link.time(), 125);
+        Check.due("not yet, outcome", g.link.outcome(false, 1), UNDER_WAY);
+        g.pass(1);
+        Check.due("outcome", g.link.outcome(false, 1), FINAL + 3);
+    }
+
     private static void groundIdle(int d) {
         Check.sentence("if it is ANSWERED: IDLE goes down; if it runs out, it is ENDED with outcome 4.");
         int idle = 12 * span(d);
@@ -381,7 +429,8 @@ public final class ClocksEdgesTest {
     }
 
     private static long frame(int number) {
-        return number == 0 ? Infos.inOrder(0, Infos.METADATA, 0, 16, 0) : Infos.inOrder(number, Infos.DATA, 0, number - 1, 0);
+        return number == 0 ? Infos.inOrder(0, Infos.METADATA, 0, 16, 0)
+            : Infos.inOrder(number, Infos.DATA, 0, number - 1, 0);
     }
 
     private static void framesClock(int d) {
@@ -449,6 +498,39 @@ public final class ClocksEdgesTest {
         }, t - 2, Infos.past(Infos.DATA, 1, t - 3, 0));
     }
 
+    private static void countOfTheOnlyOne(int d) {
+        Check.sentence("and COUNT is 1 if it is the only one");
+        int t = span(d);
+        // COUNT is 4 by the one frame: a second one leaves it so.
+        LoneGround g = frames(d, 1);
+        g.pass(3 * t);
+        suspended(g, false).pass(1);
+        suspended(g, true).pass(t - 1);
+        Check.due("a second one, not yet, alerts()", g.link.alerts(), 0);
+        Check.due("a second one, not yet, sent", g.link.sent(true), 5);
+        g.pass(1);
+        Check.due("a second one, alerts()", g.link.alerts(), 1);
+        // COUNT was 4, all are confirmed, and the next frame is the only one: it goes four times.
+        LoneGround h = frames(d, 1);
+        h.pass(3 * t);
+        suspended(h.hears(Infos.report(1)), false).pass(1);
+        suspended(h, true).pass(4 * t - 1);
+        Check.due("the only one, not yet, alerts()", h.link.alerts(), 0);
+        Check.due("the only one, not yet, sent", h.link.sent(true), 8);
+        h.pass(1);
+        Check.due("the only one, alerts()", h.link.alerts(), 1);
+        // The same after an ALERT.
+        LoneGround a = frames(d, 1);
+        a.pass(4 * t);
+        suspended(a.hears(Infos.report(1)), false).pass(1);
+        int seen = a.link.sent(true);
+        suspended(a, true).pass(4 * t - 1);
+        Check.due("after an ALERT, not yet, alerts()", a.link.alerts(), 1);
+        Check.due("after an ALERT, not yet, sent", a.link.sent(true), seen + 3);
+        a.pass(1);
+        Check.due("after an ALERT, alerts()", a.link.alerts(), 2);
+    }
+
     private static void framesClockSetByConfirming(int d) {
         Check.sentence("if x > 0, COUNT is 1 and the clock is set to T");
         int t = span(d);
@@ -471,6 +553,19 @@ public final class ClocksEdgesTest {
         Check.due("COUNT is 1, sent", g.link.sent(true), 11);
         g.pass(1);
         Check.due("COUNT 4 again, alerts()", g.link.alerts(), 1);
+    }
+
+    private static void framesClockSetByAgain(int d) {
+        Check.sentence("all UNCONFIRMED are MARKED, RECOVERING is on, the clock is set to T");
+        int t = span(d);
+        // AGAIN is heard in the tick in which the clock would run out: COUNT grows once, not twice.
+        LoneGround g = frames(d, 1).hearsIn(t, Infos.report(Infos.AGAIN));
+        Check.due("the frame once more, sent", g.link.sent(true), 2);
+        g.pass(3 * t - 1);
+        Check.due("COUNT 4, not yet, alerts()", g.link.alerts(), 0);
+        Check.due("COUNT 4, not yet, sent", g.link.sent(true), 4);
+        g.pass(1);
+        Check.due("COUNT 4, alerts()", g.link.alerts(), 1);
     }
 
     private static void framesClockStands(int d) {
@@ -542,6 +637,7 @@ public final class ClocksEdgesTest {
             craftIdleBeforeItsClock(d);
             craftTriesFour(d);
             craftTriesAnew(d);
+            craftTriesAfterEof(d);
             craftFinished(d);
             craftFinishedAfterTheLimit(d);
             groundClock(d);
@@ -553,12 +649,15 @@ public final class ClocksEdgesTest {
             framesClock(d);
             framesClockSetByEachSending(d);
             framesClockSetByAFrame(d);
+            countOfTheOnlyOne(d);
             framesClockSetByConfirming(d);
+            framesClockSetByAgain(d);
             framesClockStands(d);
             directiveAgain(d);
             directiveSetsTheClock(d);
             firstHeard(d);
         }
+        groundClockWaitsForCancel();
         Check.end();
     }
 }

@@ -307,6 +307,28 @@ public final class CraftFilesEdgesTest {
         stored("an empty one", empty, 1);
     }
 
+    private static void storeStaysAsItWas() {
+        Check.sentence("the file of that name in the craft's store becomes these words (by nothing else)");
+        long[] first = {metadata(2, 0), data(0, 5), data(1, 6), eof(2, 11)};
+        long[] others = {metadata(0, 0), metadata(17, 0), metadata(0, 4), data(0, 9), data(16, 9), eof(1, 9), eof(17, 9),
+            cancel(), done(), Infos.past(0, 3, 0, 0), Infos.past(6, 3, 0, 0)};
+        for (int i = 0; i < others.length; i++) {
+            // Of record 4, not of record 3.
+            long other = others[i] ^ 7L << 40;
+            stored("PDU " + i + " of a new record", craft().hears(first).hears(other), 0, 5, 6);
+            LoneCraft open = craft().hears(first).hears(Infos.past(Infos.DATA, 4, 0, 9), other);
+            stored("PDU " + i + " of an OPEN one", open, 0, 5, 6);
+            LoneCraft ending = craft().hears(first).hears(Infos.past(Infos.CANCEL, 4, 0, 0), other);
+            stored("PDU " + i + " of an ENDING one", ending, 0, 5, 6);
+        }
+        // Record 3 is stored, then record 4 in its place: nothing that comes for record 3 brings its words back.
+        LoneCraft c = craft().hears(first).hears(Infos.past(Infos.METADATA, 4, 0, 0), Infos.past(Infos.EOF, 4, 0, 0));
+        stored("in its place", c, 0);
+        for (long other : others) {
+            stored("in its place still", c.hears(other), 0);
+        }
+    }
+
     private static void eofOwesALack() {
         Check.sentence("When it is EOF that was taken just now, and the record is not WHOLE, it OWES a LACK");
         LoneCraft.sends("EOF", () -> craft().hears(metadata(1, 0)).isToHear(eof(1, 0)), got(3), lack(1), NO_PDU);
@@ -390,6 +412,28 @@ public final class CraftFilesEdgesTest {
         outcome("a GOT still", c, CLOSED + 5);
     }
 
+    /** Record 3 OWES a LACK again in tick 9T - 1 after its EOF; from then on record 2 OWES a GOT in each tick. */
+    private static LoneCraft keptFromItsLack(int ticks) {
+        LoneCraft c = craft().hears(eof(1, 0));
+        c.pass(9 * 8 - 3);
+        for (int i = 0; i < ticks; i++) {
+            c.send(Infos.past(Infos.EOF, 2, 17, 0));
+        }
+        return c;
+    }
+
+    private static void closedOwesNoLack() {
+        Check.sentence("A CLOSED one OWES no LACK");
+        // IDLE runs out 24 ticks after the LACK became owed.
+        LoneCraft.sends("still OPEN", () -> keptFromItsLack(23), got(2), lack(METADATA_BIT | 1), NO_PDU);
+        LoneCraft.sends("CLOSED in the tick after", () -> keptFromItsLack(24), got(2), NO_PDU, NO_PDU);
+        LoneCraft.sends("CLOSED", () -> keptFromItsLack(25), got(2), NO_PDU, NO_PDU);
+        LoneCraft c = keptFromItsLack(25);
+        outcome("not yet", c, OPEN);
+        c.pass(1);
+        outcome("CLOSED", c, CLOSED + 4);
+    }
+
     private static void leastTransactionFirst() {
         Check.sentence("the PDU that is owed: of the least transaction that owes one");
         long high = Infos.past(Infos.CANCEL, 15, 0, 0);
@@ -435,12 +479,14 @@ public final class CraftFilesEdgesTest {
         lengthsDiffer();
         sumsDiffer();
         storedOnlyWhenGood();
+        storeStaysAsItWas();
         eofOwesALack();
         lackMask();
         endingOwesNoLack();
         doneCloses();
         closedTakesNothing();
         closedOwesAGotStill();
+        closedOwesNoLack();
         leastTransactionFirst();
         gotBeforeLackBeforeFinished();
         noPduIsOwed();

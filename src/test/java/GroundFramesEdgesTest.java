@@ -254,6 +254,16 @@ public final class GroundFramesEdgesTest {
         window("ACTIVE", g, ACTIVE, 2, 0, 0);
         suspended(g, false).pass(3);
         window("AGAIN marks anew", suspended(g, true).hears(Infos.report(2 | AGAIN)), ACTIVE, 5, 3, 2);
+        LoneGround h = again(unconfirmed(2, 2), 0, 4);
+        alerts("ALERT by AGAIN", h, 1);
+        suspended(h.hears(Infos.report(2)), false).pass(3);
+        window("AGAIN marks anew after that", suspended(h, true).hears(Infos.report(2 | AGAIN)), ACTIVE, 5, 3, 2);
+        // The clock runs out with COUNT 4, 8 ticks after the last frame was sent, while RECOVERING is on.
+        LoneGround c = again(unconfirmed(1, 1), 0, 3);
+        c.pass(8);
+        alerts("ALERT by the clock", c, 1);
+        suspended(c.hears(Infos.report(1)), false).pass(3);
+        window("AGAIN marks anew after that", suspended(c, true).hears(Infos.report(1 | AGAIN)), ACTIVE, 4, 3, 2);
     }
 
     private static void againWithNoneLeft() {
@@ -262,6 +272,9 @@ public final class GroundFramesEdgesTest {
             LoneGround g = unconfirmed(11, n).hears(Infos.report(11 | AGAIN));
             window("n and x " + n, g, ACTIVE, 11, 0, 0);
             Check.due("n and x " + n + ", sent(true)", g.link.sent(true), 11);
+            suspended(g, false).pass(3);
+            suspended(g, true).hears(Infos.report(11 | AGAIN));
+            window("RECOVERING was not on by that, n and x " + n, g, ACTIVE, 14, 3, 2);
         }
         for (int n = 1; n <= 7; n++) {
             LoneGround g = unconfirmed(11, n).hears(Infos.report(10 | AGAIN));
@@ -358,6 +371,31 @@ public final class GroundFramesEdgesTest {
             frame(0), frame(1), NONE);
     }
 
+    /** Frames 0 to 2 are MARKED; 1 and 2 are so still when they are no longer UNCONFIRMED; NEXT comes round to 0. */
+    private static LoneGround roundAfterMarked(boolean byAlert) {
+        LoneGround g = unconfirmed(3, 3).hears(Infos.report(AGAIN), Infos.report(byAlert ? 9 : 3));
+        g.hears(Infos.report(3));
+        for (int i = 3; i < 16; i++) {
+            suspended(g, false).pass(1);
+            suspended(g, true).hears(Infos.report(i + 1 & 15));
+        }
+        return g;
+    }
+
+    private static void newFramesAreNotMarked() {
+        Check.sentence("each may be MARKED (a new frame is not, whatever the last one of its number was)");
+        for (boolean byAlert : new boolean[] {false, true}) {
+            window("none", roundAfterMarked(byAlert), ACTIVE, 0, 0, 0);
+            LoneGround.sends("numbers 0 and 1", () -> suspended(roundAfterMarked(byAlert), false),
+                frame(16), frame(17), NONE);
+            LoneGround g = suspended(roundAfterMarked(byAlert), false);
+            g.pass(1);
+            window("number 0", g, ACTIVE, 1, 1, 0);
+            g.pass(1);
+            window("number 1", g, ACTIVE, 2, 2, 0);
+        }
+    }
+
     private static void directiveFirst() {
         Check.sentence("Step 6: if the directive is due: .. it is due no more");
         LoneGround.sends("before what goes past the order", () -> {
@@ -418,6 +456,7 @@ public final class GroundFramesEdgesTest {
         againFourTimes();
         confirmedCountsAnew();
         markedFirst();
+        newFramesAreNotMarked();
         directiveFirst();
         noneIsSent();
         windowAnswer();

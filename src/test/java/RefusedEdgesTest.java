@@ -225,6 +225,38 @@ public final class RefusedEdgesTest {
         });
     }
 
+    /** CANCEL goes in the ticks 1, 25, 49 and 73; it is given up in tick 97, whatever was refused between. */
+    private static void cancelTwiceLeavesTries() {
+        Check.sentence("A call that is refused changes nothing: cancel of one that was cancelled before (TRIES)");
+        LoneGround g = new LoneGround(1);
+        g.link.put(0, 0, 0, true);
+        g.link.cancel(0);
+        for (int tick = 0; tick < 96; tick += 12) {
+            Check.due("not ENDED yet, run", g.pass(12), 0);
+            isFalse("cancel(0)", g.link.cancel(0));
+        }
+        Check.due("CANCEL four times, sent(true)", g.link.sent(true), 4);
+        Check.due("ENDED, run", g.pass(1), 1);
+        Check.due("ENDED, outcome(false, 0)", g.link.outcome(false, 0), 11);
+    }
+
+    /** GOT is heard in tick 3: IDLE runs out in tick 98. */
+    private static void cancelTwiceLeavesAnswered() {
+        Check.sentence("A call that is refused changes nothing: cancel of one that was cancelled before (ANSWERED)");
+        LoneGround g = new LoneGround(1);
+        g.link.put(0, 0, 0, true);
+        g.link.cancel(0);
+        g.pass(1);
+        g.hears(Infos.down(0, Infos.GOT, 0, 0));
+        for (int i = 0; i < 94; i++) {
+            isFalse("cancel(0)", g.link.cancel(0));
+            Check.due("not ENDED yet, run", g.pass(1), 0);
+        }
+        Check.due("ENDED, run", g.pass(1), 1);
+        Check.due("ENDED, outcome(false, 0)", g.link.outcome(false, 0), 12);
+        Check.due("CANCEL once, sent(true)", g.link.sent(true), 1);
+    }
+
     private static void suspends() {
         for (boolean on : new boolean[] {true, false}) {
             for (int t : new int[] {-1, 16, MIN, MAX}) {
@@ -266,6 +298,8 @@ public final class RefusedEdgesTest {
         writes();
         puts();
         cancels();
+        cancelTwiceLeavesTries();
+        cancelTwiceLeavesAnswered();
         suspends();
         outages();
         runs();
